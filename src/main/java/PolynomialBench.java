@@ -522,7 +522,7 @@ public final class PolynomialBench {
         }
 
         void put(long number) {
-            sign = Long.compare(number, 0L);
+            sign = number < 0 ? -1 : number > 0 ? 1 : 0;
             size = 0;
             long left = number;
             for (int i = 0; i < parts.length && left != 0; i++) {
@@ -781,9 +781,7 @@ public final class PolynomialBench {
                 carry = Math.floorDiv(sum, (long) BASE);
                 parts[at + i] = (int) (sum - carry * BASE);
             }
-            boolean tooGreat = parts[at + count] + carry < 0;
-            parts[at + count] = 0;
-            if (tooGreat) {
+            if (parts[at + count] + carry < 0) {
                 digit--;
                 int over = 0;
                 for (int i = 0; i < count; i++) {

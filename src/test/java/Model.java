@@ -170,43 +170,42 @@ final class Model {
         }
         int m = a.length - 1;
         int n = b.length - 1;
-        Ratio[][] rows = new Ratio[m + n][m + n];
+        BigInteger[][] rows = new BigInteger[m + n][m + n];
         for (int i = 0; i < m + n; i++) {
             for (int j = 0; j < m + n; j++) {
-                BigInteger c = i < n ? at(a, m - (j - i)) : at(b, n - (j - (i - n)));
-                rows[i][j] = new Ratio(c, ONE);
+                rows[i][j] = i < n ? at(a, m - (j - i)) : at(b, n - (j - (i - n)));
             }
         }
-        return determinant(rows).over;
+        return determinant(rows);
     }
 
-    static Ratio determinant(Ratio[][] rows) {
-        Ratio d = new Ratio(ONE, ONE);
+    /** Bareiss: each element stays a determinant of whole numbers. */
+    static BigInteger determinant(BigInteger[][] rows) {
+        BigInteger before = ONE;
+        int sign = 1;
         for (int c = 0; c < rows.length; c++) {
             int pivot = c;
             while (pivot < rows.length && rows[pivot][c].signum() == 0) {
                 pivot++;
             }
             if (pivot == rows.length) {
-                return new Ratio(ZERO, ONE);
+                return ZERO;
             }
             if (pivot != c) {
-                Ratio[] t = rows[pivot];
+                BigInteger[] t = rows[pivot];
                 rows[pivot] = rows[c];
                 rows[c] = t;
-                d = new Ratio(d.over.negate(), d.under);
+                sign = -sign;
             }
-            d = d.times(rows[c][c]);
             for (int i = c + 1; i < rows.length; i++) {
-                Ratio f = rows[i][c].over(rows[c][c]);
-                if (f.signum() != 0) {
-                    for (int j = c; j < rows.length; j++) {
-                        rows[i][j] = rows[i][j].minus(f.times(rows[c][j]));
-                    }
+                for (int j = c + 1; j < rows.length; j++) {
+                    BigInteger across = rows[i][j].multiply(rows[c][c]).subtract(rows[i][c].multiply(rows[c][j]));
+                    rows[i][j] = across.divide(before);
                 }
             }
+            before = rows[c][c];
         }
-        return d;
+        return sign < 0 ? before.negate() : before;
     }
 
     /** S(k) is the product of all irreducible factors that occur k times or more. */
@@ -672,26 +671,34 @@ final class Model {
         return m;
     }
 
-    private List<Integer> allWholeRoots(int place) {
+    static List<Integer> allWholeRoots(BigInteger[] p) {
         List<Integer> all = new ArrayList<>();
         for (int x = -1000; x <= 1000; x++) {
-            if (valueOf(places[place], new Ratio(x, 1)).signum() == 0) {
+            if (wholeValue(p, x).signum() == 0) {
                 all.add(x);
             }
         }
         return all;
     }
 
+    private static BigInteger wholeValue(BigInteger[] p, int x) {
+        BigInteger v = ZERO;
+        for (int i = p.length - 1; i >= 0; i--) {
+            v = v.multiply(BigInteger.valueOf(x)).add(p[i]);
+        }
+        return v;
+    }
+
     int wholeRoots(int place) {
         place(place);
         notZero(place);
-        return allWholeRoots(place).size();
+        return allWholeRoots(places[place]).size();
     }
 
     int wholeRoot(int place, int index) {
         place(place);
         notZero(place);
-        List<Integer> all = allWholeRoots(place);
+        List<Integer> all = allWholeRoots(places[place]);
         if (index < 0 || index >= all.size()) {
             throw new NoSuchElementException();
         }
@@ -703,8 +710,7 @@ final class Model {
         range(modulus, 1, 1000);
         int count = 0;
         for (int x = 0; x < modulus; x++) {
-            BigInteger v = valueOf(places[place], new Ratio(x, 1)).over;
-            count += v.mod(BigInteger.valueOf(modulus)).signum() == 0 ? 1 : 0;
+            count += wholeValue(places[place], x).mod(BigInteger.valueOf(modulus)).signum() == 0 ? 1 : 0;
         }
         return count;
     }
