@@ -13,6 +13,8 @@ public final class ExtremesTest {
         ExtremesTest test = new ExtremesTest();
         test.edgesOfFitting();
         test.divisionAtTheEdge();
+        test.divisorsTooGreat();
+        test.curvesWithGreatNumbers();
         for (int i = 0; i < 25; i++) {
             test.pair(test.dense(8), test.dense(8));
             test.pair(test.dense(1 + test.random.nextInt(8)), test.dense(1 + test.random.nextInt(8)));
@@ -226,15 +228,37 @@ public final class ExtremesTest {
 
     /** With few points far apart, and with many near ones, d comes on both sides of 2^63. */
     private void points(int count) {
-        PolynomialBench desk = new PolynomialBench();
-        Model model = new Model();
+        int[] xs = new int[count];
+        int[] ys = new int[count];
         int reach = 4 + random.nextInt(47);
         for (int i = 0; i < count; i++) {
-            int x = random.nextInt(2 * reach + 1) - reach;
-            int y = random.nextInt(2_000_001) - 1_000_000;
+            xs[i] = random.nextInt(2 * reach + 1) - reach;
+            ys[i] = random.nextInt(2_000_001) - 1_000_000;
+        }
+        curve(xs, ys);
+    }
+
+    /** Numbers d of 2^63 to 10^19, just below, of 20 digits, of 28 and of 31. */
+    private void curvesWithGreatNumbers() {
+        curve(new int[] {-43, 27, -19, -46, 45, -5, -39, -29},
+            new int[] {404711, -621377, -598246, -606737, 889046, 703251, 721938, 351946});
+        curve(new int[] {-29, 34, -16, 32, 41, -13, 8, 39},
+            new int[] {-324714, 41222, -6431, -760525, -950435, -345679, -189331, -279959});
+        curve(new int[] {13, 20, -21, -6, 36, -22, 47, 8},
+            new int[] {997001, -392284, 943025, -954933, -127208, 756528, 921557, 166969});
+        curve(new int[] {-49, 4, 44, 34, 22, -46, -3, 3},
+            new int[] {-156654, -409537, 964031, 382006, 877644, 574989, 404412, -961558});
+        curve(new int[] {-4, 47, -24, 49, 43, -44, 6, -30},
+            new int[] {292510, 448722, -862796, 750843, 235704, 571983, 714987, 673205});
+    }
+
+    private void curve(int[] xs, int[] ys) {
+        PolynomialBench desk = new PolynomialBench();
+        Model model = new Model();
+        for (int i = 0; i < xs.length; i++) {
             try {
-                model.addPoint(x, y);
-                desk.addPoint(x, y);
+                model.addPoint(xs[i], ys[i]);
+                desk.addPoint(xs[i], ys[i]);
             } catch (IllegalStateException e) {
                 // This x is taken: a point less.
             }
@@ -282,6 +306,44 @@ public final class ExtremesTest {
         Due.put(desk, 6, "99999999999999999999");
         due.same("multiply", desk.multiply(5, 6, 6), 0);
         due.text("write", Due.show(desk, 6), "9999999999999999999900000000000000000000");
+    }
+
+    private static BigInteger[] line(long times, long less) {
+        return new BigInteger[] {BigInteger.valueOf(-less), BigInteger.valueOf(times)};
+    }
+
+    private static BigInteger[] small(long... coefficients) {
+        BigInteger[] p = new BigInteger[coefficients.length];
+        for (int i = 0; i < p.length; i++) {
+            p[i] = BigInteger.valueOf(coefficients[i]);
+        }
+        return p;
+    }
+
+    /** Divisors can have greater coefficients than what they divide: here 41 digits, of polynomials with 40. */
+    private void divisorsTooGreat() {
+        BigInteger a = new BigInteger("90000000000000000001");
+        BigInteger b = new BigInteger("90000000000000000000");
+        BigInteger[] line = {b.negate(), a};
+        BigInteger[] square = Model.product(line, line);
+        PolynomialBench desk = new PolynomialBench();
+        put(desk, 0, Model.product(square, small(1, 1, 1)));
+        put(desk, 1, Model.product(square, small(1, 1)));
+        due.thrown("a greatest divisor too great", desk, IllegalStateException.class, () -> desk.gcd(0, 1, 2));
+        due.thrown("without a place", desk, IndexOutOfBoundsException.class, () -> desk.gcd(0, 1, 8));
+        due.same("errors", desk.errors(0, 1), 0);
+        due.same("resultant", desk.resultant(0, 1), 0);
+        due.same("roots", desk.roots(0), 1);
+        due.same("box", desk.box(0, 0, 8), 255);
+        BigInteger[] three = Model.product(line(15870000000001L, 15870000000000L),
+                Model.product(line(15870000000003L, 15870000000002L), line(15870000000007L, 15870000000011L)));
+        put(desk, 2, Model.product(three, small(1, 2, 1)));
+        due.thrown("a part too great", desk, IllegalStateException.class, () -> desk.part(2, 1, 3));
+        due.thrown("a part out of range", desk, IllegalArgumentException.class, () -> desk.part(2, 0, 3));
+        due.same("part", desk.part(2, 2, 3), 1);
+        due.text("part", Due.show(desk, 3), "x+1");
+        due.same("roots", desk.roots(2), 4);
+        due.same("errors", desk.errors(2, 1), 0);
     }
 
     private void divisionAtTheEdge() {
