@@ -21,6 +21,9 @@ public final class ExtremesTest {
             test.pair(test.sparse(8), test.sparse(1 + test.random.nextInt(8)));
             test.pair(test.signs(8), test.signs(8));
         }
+        for (int i = 0; i < 60; i++) {
+            test.unevenChain();
+        }
         test.likeHadamard();
         for (int i = 0; i < 24; i++) {
             test.sharedFactor(1 + i % 6);
@@ -110,6 +113,23 @@ public final class ExtremesTest {
         BigInteger[] g = Model.greatest(a, b);
         due.same("gcd", desk.gcd(0, 1, 2), g.length - 1);
         due.text("gcd", Due.show(desk, 2), Model.write(g));
+    }
+
+    /** Two polynomials whose chain of rests skips degrees anywhere: built from its end. */
+    private void unevenChain() {
+        BigInteger[] lower = {whole(5).setBit(0)};
+        BigInteger[] upper = {whole(5), whole(5).setBit(0)};
+        while (upper.length < 8) {
+            BigInteger[] factor = Model.zeros(1 + Math.min(1 + random.nextInt(3), 8 - upper.length));
+            for (int i = 0; i < factor.length; i++) {
+                factor[i] = whole(4).setBit(0);
+            }
+            BigInteger[] next = Model.sum(Model.product(upper, factor), lower, random.nextBoolean() ? 1 : -1);
+            lower = upper;
+            upper = next;
+        }
+        pair(upper, lower);
+        pair(Model.sum(upper, lower, -7), upper);
     }
 
     private void likeHadamard() {
