@@ -1193,7 +1193,7 @@ public final class PolynomialBench {
         void prepare(Poly of, Chain chain) {
             slopeRow.derive(of);
             chain.build(of, slopeRow);
-            if (chain.last().degree > 0 && chain.count > 1) {
+            if (chain.last().degree > 0) {
                 slopeRow.assign(chain.last());
                 slopeRow.makePrimitive(chain.numbers);
                 work.assign(of);
