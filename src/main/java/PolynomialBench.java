@@ -407,8 +407,13 @@ public final class PolynomialBench {
         wrong += checks.wrongDivisor(first, last, result, chain.numbers);
         wrong += checks.wrongResultant(first, last, result, number);
         if (first.degree >= 0) {
+            checks.startParts();
             divisors.start(first, chain);
-            wrong += checks.wrongParts(first, divisors, chain);
+            for (int times = 1; times < TERMS; times++) {
+                divisors.nextPart(second, chain);
+                checks.takePart(second, times, chain.numbers);
+            }
+            wrong += checks.wrongParts(first, chain.numbers);
             finder.prepare(first, chain);
             wrong += checks.wrongBoxes(finder, chain);
         }
@@ -1655,20 +1660,23 @@ public final class PolynomialBench {
             return vanishes == (resultantThen.sign == 0) ? 0 : 1;
         }
 
-        /** The primitive part is the product of the parts, each as often as it occurs. */
-        int wrongParts(Poly of, Divisors divisors, Chain chain) {
+        void startParts() {
             left.clear();
             left.terms[0].put(1);
             left.settle();
-            for (int times = 1; times < TERMS; times++) {
-                divisors.nextPart(right, chain);
-                for (int i = 0; i < times; i++) {
-                    quotient.product(left, right, chain.numbers);
-                    left.assign(quotient);
-                }
+        }
+
+        void takePart(Poly part, int times, Numbers numbers) {
+            for (int i = 0; i < times; i++) {
+                quotient.product(left, part, numbers);
+                left.assign(quotient);
             }
+        }
+
+        /** The primitive part is the product of the parts that were taken, each as often as it occurs. */
+        int wrongParts(Poly of, Numbers numbers) {
             right.assign(of);
-            right.makePrimitive(chain.numbers);
+            right.makePrimitive(numbers);
             return left.equalTo(right) ? 0 : 1;
         }
 
