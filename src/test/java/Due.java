@@ -1,5 +1,14 @@
+import java.util.function.Consumer;
+import java.util.function.Supplier;
+
 /** Counts the answers that are not as due, and makes calls of a desk short to write. */
 final class Due {
+    static final Class<IndexOutOfBoundsException> PLACE = IndexOutOfBoundsException.class;
+    static final Class<IllegalArgumentException> RANGE = IllegalArgumentException.class;
+    static final Class<IllegalStateException> STATE = IllegalStateException.class;
+    static final int[] NO_PLACES = {-1, 8, Integer.MIN_VALUE, Integer.MAX_VALUE};
+    static final String[] PARTS = {"page", "places", "changes", "points", "text"};
+
     private static final int[] MODULI = {2, 999_999_937, Integer.MAX_VALUE};
 
     private final String name;
@@ -49,6 +58,26 @@ final class Due {
             fail(what + " threw " + got + ", due is " + want);
         }
         text(what + ": the desk after the throw", sight(desk), before);
+    }
+
+    /** The call throws just this exception, and the desk holds afterwards all that a desk without this call holds. */
+    void refused(String what, Supplier<PolynomialBench> scene, Class<?> want, Consumer<PolynomialBench> call) {
+        checks++;
+        PolynomialBench desk = scene.get();
+        Class<?> got = null;
+        try {
+            call.accept(desk);
+        } catch (RuntimeException e) {
+            got = e.getClass();
+        }
+        if (got != want) {
+            fail(what + " threw " + got + ", due is " + want);
+        }
+        String[] before = allOf(scene.get());
+        String[] after = allOf(desk);
+        for (int i = 0; i < PARTS.length; i++) {
+            text(what + ": the " + PARTS[i] + " after the throw", after[i], before[i]);
+        }
     }
 
     void fail(String message) {
@@ -123,5 +152,43 @@ final class Due {
             }
         }
         return sight.toString();
+    }
+
+    static String places(PolynomialBench desk) {
+        StringBuilder places = new StringBuilder();
+        for (int place = 0; place < 8; place++) {
+            places.append(show(desk, place)).append(", ");
+        }
+        return places.toString();
+    }
+
+    /** All that can be told of a desk, in the order of PARTS; the calls that tell it use the desk up. */
+    static String[] allOf(PolynomialBench desk) {
+        String page = page(desk);
+        String places = places(desk);
+        StringBuilder changes = new StringBuilder();
+        for (int left = desk.undo(); left >= 0; left = desk.undo()) {
+            changes.append(left).append(": ").append(places(desk));
+        }
+        return new String[] {page, places, changes.toString(), pointsOf(desk), textOf(desk)};
+    }
+
+    private static String pointsOf(PolynomialBench desk) {
+        String curve;
+        try {
+            curve = desk.interpolate(0) + " " + show(desk, 0);
+        } catch (IllegalStateException e) {
+            curve = "too great";
+        }
+        return curve + " " + desk.clearPoints();
+    }
+
+    private static String textOf(PolynomialBench desk) {
+        String text = desk.type(0) + " " + desk.errorKind() + " " + desk.errorPlace();
+        if (desk.errorKind() != 0) {
+            return text;
+        }
+        desk.read(0);
+        return text + " " + show(desk, 0);
     }
 }

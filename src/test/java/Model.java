@@ -635,7 +635,7 @@ final class Model {
         place(place);
         fraction(over, under);
         Ratio v = valueOf(places[place], new Ratio(over, under));
-        return page(v.under.equals(ONE) ? v.over.toString() : v.over + "/" + v.under);
+        return page(v.written());
     }
 
     int roots(int place) {
@@ -737,8 +737,7 @@ final class Model {
     }
 
     /** Newton's divided differences. */
-    long interpolate(int to) {
-        place(to);
+    private Ratio[] curve() {
         int n = points.size();
         Ratio[] c = new Ratio[n];
         for (int i = 0; i < n; i++) {
@@ -758,12 +757,24 @@ final class Model {
             }
             p[0] = p[0].plus(c[i]);
         }
+        return p;
+    }
+
+    /** The number d, even if it is too great. */
+    BigInteger numberD() {
         BigInteger d = ONE;
-        for (Ratio r : p) {
+        for (Ratio r : curve()) {
             d = d.multiply(r.under).divide(d.gcd(r.under));
         }
-        BigInteger[] q = new BigInteger[n];
-        for (int i = 0; i < n; i++) {
+        return d;
+    }
+
+    long interpolate(int to) {
+        place(to);
+        Ratio[] p = curve();
+        BigInteger d = numberD();
+        BigInteger[] q = new BigInteger[p.length];
+        for (int i = 0; i < p.length; i++) {
             q[i] = p[i].times(new Ratio(d, ONE)).over;
         }
         if (d.bitLength() > 63) {
@@ -826,6 +837,10 @@ final class Model {
 
         int signum() {
             return over.signum();
+        }
+
+        String written() {
+            return under.equals(ONE) ? over.toString() : over + "/" + under;
         }
 
         Ratio plus(Ratio r) {
