@@ -7,7 +7,6 @@ public final class PolynomialBench {
     private static final int PLACES = 8;
     private static final int TERMS = 8;
     private static final int BASE = 1_000_000_000;
-    private static final int BASE_DIGITS = 9;
     private static final int CHANGES = 8;
     private static final int POINTS = 8;
     private static final int TEXT_ROOM = 300;
@@ -27,6 +26,7 @@ public final class PolynomialBench {
     private static final int BOX_LIMIT = 500;
     private static final int BOX_DIGITS = 8;
     private static final int MODULUS_LIMIT = 1000;
+    private static final int COEFFICIENT_MODULUS_LIMIT = 2_147_483_647;
     private static final int POINT_X_LIMIT = 50;
     private static final int POINT_Y_LIMIT = 1_000_000;
 
@@ -122,7 +122,7 @@ public final class PolynomialBench {
     public int coefficient(int place, int exponent, int modulus)
             throws IndexOutOfBoundsException, IllegalArgumentException {
         checkPlace(place);
-        checkRange(modulus, 2, Integer.MAX_VALUE);
+        checkRange(modulus, 2, COEFFICIENT_MODULUS_LIMIT);
         return hasTerm(exponent) ? places[place].terms[exponent].modulo(modulus) : 0;
     }
 

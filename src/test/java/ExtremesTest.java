@@ -38,6 +38,9 @@ public final class ExtremesTest {
         for (int i = 0; i < 4000; i++) {
             test.longDivision(i % 3 + 2);
         }
+        for (int i = 0; i < 400; i++) {
+            test.digitTakenBack();
+        }
         test.due.end();
     }
 
@@ -231,6 +234,26 @@ public final class ExtremesTest {
             over = by.multiply(most.subtract(BigInteger.valueOf(random.nextInt(3)).min(most)));
             over = over.subtract(BigInteger.valueOf(random.nextInt(2))).max(BigInteger.ONE);
         }
+        divideWholes(over, by);
+    }
+
+    /**
+     * The two first parts of the divisor go into the dividend once more than all three do. Both are multiples of
+     * another number, which a wrong rest is not.
+     */
+    private void digitTakenBack() {
+        BigInteger base = BigInteger.valueOf(1_000_000_000);
+        BigInteger shared = BigInteger.valueOf(7919);
+        BigInteger low = BigInteger.valueOf(10_000 + random.nextInt(999_990_000));
+        BigInteger high = BigInteger.valueOf(500_000_000 + random.nextInt(500_000_000)).multiply(base)
+                .add(BigInteger.valueOf(random.nextInt(3))).multiply(base);
+        low = low.subtract(high.add(low).mod(shared));
+        BigInteger digit = BigInteger.valueOf(10_000 + random.nextInt(999_990_000));
+        BigInteger over = high.multiply(digit).add(shared).add(new BigInteger(70, random).mod(digit.multiply(low)));
+        divideWholes(over.subtract(over.mod(shared)), high.add(low));
+    }
+
+    private void divideWholes(BigInteger over, BigInteger by) {
         PolynomialBench desk = new PolynomialBench();
         BigInteger[] p = {over, by};
         put(desk, 0, p);

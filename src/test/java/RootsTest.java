@@ -1,4 +1,5 @@
 import java.math.BigInteger;
+import java.util.Arrays;
 import java.util.NoSuchElementException;
 
 /** The promises 32 to 39: fractions at the ends of their ranges, counts from 0 to 7, boxes from -500 to 500. */
@@ -20,6 +21,7 @@ public final class RootsTest {
         rootsAtTheEdgesOfBoxes();
         boxesAtTheEnds();
         boxesOfRepeatedRoots();
+        repeatedRootsAmongOthers();
         numbersOfRoots();
         wholeRootsAtTheEnds();
         numbersOfWholeRoots();
@@ -102,7 +104,7 @@ public final class RootsTest {
         value(Due.desk("-12"), 999999, 1000, "-12");
         value(Due.desk("1000x-999"), 999, 1000, "0");
         BigInteger[] most = new BigInteger[8];
-        java.util.Arrays.fill(most, BigInteger.TEN.pow(40).subtract(BigInteger.ONE));
+        Arrays.fill(most, BigInteger.TEN.pow(40).subtract(BigInteger.ONE));
         PolynomialBench great = new PolynomialBench();
         ExtremesTest.put(great, 0, most);
         for (long over : new long[] {1000000, -1000000, 999983, -1, 0}) {
@@ -265,6 +267,27 @@ public final class RootsTest {
         DUE.same("rootsUpTo", desk.rootsUpTo(4, 1, 1), 2);
         DUE.same("rootsUpTo", desk.rootsUpTo(4, -3, 2), 1);
         DUE.same("wholeRoots", desk.wholeRoots(4), 1);
+    }
+
+    /** Up to a root that occurs more than once, with simple roots below and above it. */
+    private static void repeatedRootsAmongOthers() {
+        for (int times = 1; times <= 5; times++) {
+            PolynomialBench desk = Due.desk("2x-1", "x-5", "x+7");
+            desk.power(0, times, 3);
+            desk.multiply(3, 1, 4);
+            desk.multiply(4, 2, 5);
+            DUE.same("different roots", desk.roots(4), 2);
+            DUE.same("up to below the repeated one", desk.rootsUpTo(4, 499, 1000), 0);
+            DUE.same("up to the repeated one", desk.rootsUpTo(4, 1, 2), 1);
+            DUE.same("up to the simple one", desk.rootsUpTo(4, 5, 1), 2);
+            DUE.same("the box of the repeated one", desk.box(4, 0, 1), 0);
+            DUE.same("the box of the simple one", desk.box(4, 1, 1), 9);
+            DUE.same("different roots", desk.roots(5), 3);
+            DUE.same("up to the least one", desk.rootsUpTo(5, -7, 1), 1);
+            DUE.same("up to the repeated one", desk.rootsUpTo(5, 1, 2), 2);
+            DUE.same("the box of the repeated one", desk.box(5, 1, 8), 127);
+            DUE.same("the box of the greatest one", desk.box(5, 2, 0), 4);
+        }
     }
 
     private static void numbersOfRoots() {
